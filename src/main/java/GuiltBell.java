@@ -262,20 +262,20 @@ public final class GuiltBell {
 
     public int fits(int what) {
         if (!within(what, 0, 1)) return BAD;
-        guesses.search(town, trial);
+        guesses.search(town, trial, false);
         return what == 0 ? guesses.fitting : guesses.leastNumber;
     }
 
     public int range(int g, int what) {
         if (!isGiver(g) || !within(what, 0, 1)) return BAD;
-        guesses.search(town, trial);
+        guesses.search(town, trial, false);
         if (guesses.fitting == 0) return NONE;
         return what == 0 ? guesses.lowest[g] : guesses.highest[g];
     }
 
     public int next(int what) {
         if (!within(what, 0, 1)) return BAD;
-        guesses.search(town, trial);
+        guesses.search(town, trial, true);
         int first = NONE;
         int fewest = guesses.fitting;
         for (int i = 0; i < TAPS; i++) {
@@ -821,9 +821,12 @@ public final class GuiltBell {
         private final int[] tapSum = new int[3];
         private final int[] amount = new int[ALL_METALS];
         private int givers = 0;
+        private boolean tellsLeft = false;
 
-        void search(Town town, Town scratch) {
+        /** Which figures the GUILTS leave at each TAP is told apart only where it is asked, as it is dear. */
+        void search(Town town, Town scratch, boolean withLeft) {
             prepare(town, scratch);
+            tellsLeft = withLeft;
             fitting = 0;
             leastNumber = NONE;
             Arrays.fill(lowest, FIGURES - 1);
@@ -883,6 +886,7 @@ public final class GuiltBell {
                 lowest[g] = Math.min(lowest[g], guess[g]);
                 highest[g] = Math.max(highest[g], guess[g]);
             }
+            if (!tellsLeft) return;
             for (int i = 0; i < TAPS; i++) left[i * FIGURES + figureAt(i, weight)]++;
         }
 
@@ -917,13 +921,13 @@ public final class GuiltBell {
         /** How many of n pairs of CELLS the machine reads; pairFault says why not all, or is 0. */
         int wholePairs(int lane, int from, int n) {
             pairFault = faultAs(lane);
-            int whole = 0;
-            while (whole < n && pairFault == 0) {
-                pairFault = faultAt(from + 2 * whole);
-                if (pairFault == 0) pairFault = faultAt(from + 2 * whole + 1);
-                if (pairFault == 0) whole++;
+            if (pairFault != 0) return 0;
+            for (int i = 0; i < n; i++) {
+                pairFault = faultAt(from + 2 * i);
+                if (pairFault == 0) pairFault = faultAt(from + 2 * i + 1);
+                if (pairFault != 0) return i;
             }
-            return whole;
+            return n;
         }
 
         void put(int i, int v) {
