@@ -619,26 +619,25 @@ public final class GuiltBell {
         }
 
         void readToken() {
-            while (place < length && bytes[place] == ' ') place++;
+            takeRun(' ', ' ');
             start = place;
             if (place >= length) sort = THE_END;
-            else if (isLetter(bytes[place])) readName();
-            else if (isFigure(bytes[place])) readNumber();
+            else if (takeRun('a', 'z')) sort = NAME;
+            else if (takeRun('0', '9')) readNumber();
             else readSign();
         }
 
-        private void readName() {
-            while (place < length && isLetter(bytes[place])) place++;
-            sort = NAME;
+        /** Takes as many bytes from low to high as there are; false, if there is none. */
+        private boolean takeRun(char low, char high) {
+            while (place < length && bytes[place] >= low && bytes[place] <= high) place++;
+            return place > start;
         }
 
         private void readNumber() {
-            number = 0;
-            while (place < length && isFigure(bytes[place])) {
-                if (place - start < 2) number = 10 * number + bytes[place] - '0';
-                place++;
-            }
-            sort = place - start <= 2 ? NUMBER : NO_TOKEN;
+            int figures = place - start;
+            sort = figures <= 2 ? NUMBER : NO_TOKEN;
+            number = bytes[start] - '0';
+            if (figures == 2) number = 10 * number + bytes[start + 1] - '0';
         }
 
         private void readSign() {
@@ -652,14 +651,6 @@ public final class GuiltBell {
                 if (bytes[start + i] != name.charAt(i)) return false;
             }
             return true;
-        }
-
-        private static boolean isLetter(int c) {
-            return c >= 'a' && c <= 'z';
-        }
-
-        private static boolean isFigure(int c) {
-            return c >= '0' && c <= '9';
         }
     }
 

@@ -270,6 +270,9 @@ public final class GuiltBellPromises {
         x.alter(1, 1, 0);
         x.add(0, 0);
         x.add(1, 0);
+        x.add(2, 1);
+        due(9, "SWEET of one silver", x.bell(2), 10);
+        x.add(2, 0);
         due(9, "WEIGHT of nothing", x.bell(0), 0);
         due(9, "NOTE of nothing", x.bell(1), NONE);
         due(9, "SWEET of nothing", x.bell(2), 0);
@@ -376,6 +379,12 @@ public final class GuiltBellPromises {
         due(15, "(48 + 3s) / (4 + s) is 3 from 33 on", y.mine(0), 33);
         y.add(0, 5);
         due(15, "(60 + 3s) / (5 + s) is 3 from 41 on: none", y.mine(0), NONE);
+        y.add(2, 1);
+        due(15, "one silver is there: 40", y.mine(0), 40);
+        due(16, "one more is needed", y.least(2), NONE);
+        y.alter(0, 1, 1);
+        due(16, "he gives it: 40", y.least(2), 40);
+        y.add(2, 0);
         y.alter(0, 1, 9);
         due(15, "in place of what he GIVES", y.mine(0), NONE);
         due(16, "least(2): 9 are given, 32 more", y.least(2), 32);
@@ -412,6 +421,13 @@ public final class GuiltBellPromises {
         due(17, "by the second", x.casts(1), 1);
         x.alter(1, 5, 9);
         due(17, "copper HOLDS 9: 3, then tin, then copper", x.casts(0), 5);
+        GuiltBell y = told("plain tin 1 0;plain copper 2 1;plain silver 1 2;hold 1 1;hold 2 1;ask 8 0;");
+        // tin 1, copper 1: 9; copper 2: 24/3
+        due(17, "who HOLDS but 1", y.casts(0), 1);
+        due(17, "by the second", y.casts(1), 1);
+        y.ask(0, 6);
+        due(17, "all that is HELD: 27/4", y.casts(0), 2);
+        due(17, "by the third", y.casts(1), 2);
         due(17, "casts(2)", x.casts(2), BAD);
         due(17, "casts(-1)", x.casts(-1), BAD);
     }
@@ -456,6 +472,10 @@ public final class GuiltBellPromises {
         due(20, "100 copper: 500 STRIKES", y.lasts(), 500);
         y.add(1, 32);
         due(20, "101 copper: none of them", y.lasts(), NONE);
+        y.ring(4);
+        due(20, "501 STRIKES are too many", y.lasts(), NONE);
+        y.ring(1);
+        due(20, "100 are left: 500 STRIKES", y.lasts(), 500);
         due(21, "TRUE now", y.swap(), STATE);
         GuiltBell z = told("plain tin 1 0;plain copper 9 1;plain iron 5 2;plain silver 2 3;ask 11 0;");
         // tin 9, copper 1, silver 2: 120/12 is 10; 0 with 2: no tin; 0 with 3: tin 2, copper 9, silver 1
@@ -588,6 +608,24 @@ public final class GuiltBellPromises {
         x.forget(0);
         due(28, "8 of 10 at the worst", x.next(1), 8);
         due(28, "by the first", x.next(0), 0);
+        x.see(0, 1);
+        due(27, "8 or 9", x.range(0, 0), 8);
+        x.alter(0, 0, 0);
+        x.alter(0, 5, 8);
+        due(27, "9 alone, from", x.range(0, 0), 9);
+        due(27, "9 alone, to", x.range(0, 1), 9);
+        x.forget(0);
+        x.alter(0, 5, 0);
+        x.see(0, 0);
+        due(27, "0 alone, from", x.range(0, 0), 0);
+        due(27, "0 alone, to", x.range(0, 1), 0);
+        GuiltBell w = told("plain copper 5 0;add tin 1;");
+        w.ring(5);
+        // copper is WORN 1: GUILT 0 weighs but the tin, 1 too; TAP 1 tells 2g and WEIGHT
+        due(26, "all", w.fits(0), 10);
+        w.see(1, 3);
+        due(26, "2 + 1, by GUILT 1", w.fits(1), 1);
+        due(26, "2g + g is 3 or 13 or 23", w.fits(0), 1);
         GuiltBell y = new GuiltBell();
         y.see(0, 1);
         due(26, "no GIVERS: TAP 0 tells 0", y.fits(0), 0);
@@ -603,6 +641,13 @@ public final class GuiltBellPromises {
         due(29, "drift(5, 1, 2)", x.drift(5, 1, 2), BAD);
         due(29, "drift(5, 1, -1)", x.drift(5, 1, -1), BAD);
         due(29, "GUILT stays", x.giver(0, 1), 3);
+        GuiltBell w = told("plain tin 1 0;plain silver 1 1;plain copper 1 2;");
+        due(29, "drift(1, 60, 0)", w.drift(1, 60, 0), 25);
+        due(29, "drift(1, 60, 1)", w.drift(1, 60, 1), 387);
+        due(29, "drift(1, 3, 1)", w.drift(1, 3, 1), 19);
+        due(29, "drift(-1, 60, 0)", w.drift(-1, 60, 0), 14);
+        due(29, "drift(-1, 60, 1)", w.drift(-1, 60, 1), 362);
+        due(29, "drift(lowest, 60, 1)", w.drift(Integer.MIN_VALUE, 60, 1), 408);
         GuiltBell y = new GuiltBell();
         due(29, "no GIVERS", y.drift(5, 1, 0), STATE);
         due(29, "no GIVERS, and BAD", y.drift(5, 61, 0), BAD);
