@@ -905,17 +905,20 @@ public final class GuiltBell {
         }
 
         /** As the machine has it, nothing may be taken as of any lane: that it is nothing shows at the first CELL. */
-        private int faultAs(int lane) {
-            return size != NOTHING && laneOf != lane ? CAST_FAULT : 0;
+        private int pairFaultAt(int lane, int first) {
+            if (size != NOTHING && laneOf != lane) return CAST_FAULT;
+            int fault = faultAt(first);
+            return fault != 0 ? fault : faultAt(first + 1);
         }
 
-        /** How many of n pairs of CELLS the machine reads; pairFault says why not all, or is 0. */
+        /**
+         * How many of n pairs of CELLS the machine reads; pairFault says why not all, or is 0. The SHEET is taken as of
+         * its lane for each pair, so that with no pair it is taken as of none and there is no FAULT.
+         */
         int wholePairs(int lane, int from, int n) {
-            pairFault = faultAs(lane);
-            if (pairFault != 0) return 0;
+            pairFault = 0;
             for (int i = 0; i < n; i++) {
-                pairFault = faultAt(from + 2 * i);
-                if (pairFault == 0) pairFault = faultAt(from + 2 * i + 1);
+                pairFault = pairFaultAt(lane, from + 2 * i);
                 if (pairFault != 0) return i;
             }
             return n;

@@ -532,8 +532,8 @@ public final class GuiltBellModel {
         World w = world.copy();
         int done = 0, found = 0;
         try {
-            Object row = taken(sheets[a[0]], a[1]);
             for (; done < a[3]; done++) {
+                Object row = taken(sheets[a[0]], a[1]);
                 int g = cell(row, a[1], a[2] + 2 * done), guilt = cell(row, a[1], a[2] + 2 * done + 1);
                 if (noGiver(g) || !in(guilt, 0, 9)) return -20 - done;
                 w.people.get(g).guilt = guilt;

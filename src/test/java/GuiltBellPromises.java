@@ -804,8 +804,19 @@ public final class GuiltBellPromises {
         due(35, "none", x.torn(), 0);
         due(35, "no times, nothing", x.read(1, 1, 0, 0), 0);
         due(35, "no CELL was touched", x.torn(), 0);
+        due(35, "CAST ahead", x.read(0, 0, 0, 1), 0);
+        due(35, "CAST", x.torn(), 3);
         due(35, "no times, another lane", x.read(0, 0, 0, 0), 0);
-        due(35, "it was taken", x.torn(), 3);
+        due(35, "it was taken as of none", x.torn(), 0);
+        due(35, "no times, another lane, far off", x.read(0, 2, Integer.MIN_VALUE, 0), 0);
+        due(35, "none", x.torn(), 0);
+        due(35, "INDEX ahead", x.read(0, 1, 1, 1), 0);
+        due(35, "no times, no CELLS", x.sheet(2, 1, 0) + x.read(2, 0, 0, 0), 1);
+        due(35, "none", x.torn(), 0);
+        due(35, "once, no CELLS, another lane", x.read(2, 0, 0, 1), 0);
+        due(35, "CAST ahead of INDEX", x.torn(), 3);
+        due(35, "once, no CELLS", x.read(2, 1, 0, 1), 0);
+        due(35, "INDEX", x.torn(), 2);
         due(35, "GUILT 0", x.read(0, 1, 0, 1), 1);
         due(35, "0", x.giver(0, 1), 0);
     }
