@@ -13,6 +13,8 @@ import java.util.regex.Pattern;
 public final class GuiltBellModel {
     private static final int BAD = -1, STATE = -2, FULL = -3, NONE = -4;
     private static final int RUNS = 400, CALLS = 300;
+    /** An object is used for 512 calls at most; a text takes up to 162 of them. */
+    private static final int MOST_CALLS = 512, CALLS_OF_TEXT = 162;
 
     private static final class Person {
         int kind, guilt, metal, deed, sorry, holds;
@@ -113,6 +115,7 @@ public final class GuiltBellModel {
     private final List<int[]> seen = new ArrayList<>();
     private String tape = "";
     private int fault = 0, faultPlace = 0, torn = 0;
+    private int calls = 0;
 
     // ---- the text
 
@@ -650,6 +653,7 @@ public final class GuiltBellModel {
 
     private static void both(int run, GuiltBell x, GuiltBellModel model, String name, int... a) {
         long got = tried(x, name, a), want = model.call(name, a);
+        model.calls++;
         if (got == want) return;
         if (wrong++ < 20) {
             System.out.println("run " + run + ": " + name + java.util.Arrays.toString(a) + " answered " + got + ", due is " + want);
@@ -666,7 +670,7 @@ public final class GuiltBellModel {
         GuiltBell x = new GuiltBell();
         GuiltBellModel model = new GuiltBellModel();
         tell(run, x, model, textOf(r));
-        for (int i = 0; i < CALLS; i++) {
+        for (int i = 0; i < CALLS && model.calls + 1 + CALLS_OF_TEXT <= MOST_CALLS; i++) {
             String[] call = some(r, CALLED).split(" ");
             boolean dear = call[0].matches("fits|range|next|mean|luck");
             if (dear && r.nextInt(4) != 0) continue;
@@ -683,6 +687,10 @@ public final class GuiltBellModel {
         GuiltBell x = new GuiltBell();
         GuiltBellModel model = new GuiltBellModel();
         for (int run = 0; run < 20000; run++) {
+            if (model.calls + CALLS_OF_TEXT + 38 > MOST_CALLS) {
+                x = new GuiltBell();
+                model = new GuiltBellModel();
+            }
             tell(-run, x, model, textOf(r));
             for (int what = 0; what < 6; what++) both(-run, x, model, "rule", what);
             for (int g = 0; g < 4; g++) for (int what = 0; what < 8; what++) both(-run, x, model, "giver", g, what);
